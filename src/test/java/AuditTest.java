@@ -6,6 +6,8 @@ public final class AuditTest {
         savesAndCuts();
         whatACutForgets();
         shareAndMean();
+        allNumbersSurvive();
+        turnAfterCut();
         Checks.end("AuditTest");
     }
 
@@ -111,5 +113,36 @@ public final class AuditTest {
         Checks.same("audit of balls", x.audit(1), 1);
         Checks.fails("share since power came", ArithmeticException.class, () -> x.savedShare());
         Checks.fails("mean since power came", ArithmeticException.class, () -> x.meanPoints());
+    }
+
+    private static void allNumbersSurvive() {
+        Tiltcourt x = Checks.lanes(Checks.machine("pd"), 0, 1, 12);
+        Checks.rule(x, 0, 's', 1, "p3");
+        Checks.start(x, 1);
+        for (int i = 0; i < 6; i++) {
+            x.push();
+        }
+        x.tick(100);
+        Checks.start(x, 2);
+        x.tick(2);
+        for (int which = 0; which < 5; which++) {
+            Checks.same("audit " + which, x.audit(which), new int[] {2, 4, 1, 6, 120}[which]);
+        }
+        Checks.same("save", x.save(), 1);
+        Checks.same("cut", x.cut(1), 1);
+        for (int which = 0; which < 5; which++) {
+            Checks.same("audit found " + which, x.audit(which), new int[] {2, 4, 1, 6, 120}[which]);
+        }
+    }
+
+    private static void turnAfterCut() {
+        Tiltcourt x = Checks.lanes(Checks.machine("pd"), 0, 1, 12);
+        Checks.start(x, 2);
+        x.tick(2);
+        Checks.same("player", x.player(), 1);
+        x.cut(7);
+        Checks.start(x, 2);
+        Checks.same("player of a new game", x.player(), 0);
+        Checks.same("ball of a new game", x.ball(), 1);
     }
 }

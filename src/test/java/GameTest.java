@@ -17,6 +17,10 @@ public final class GameTest {
         swingFades();
         tilt();
         playersAsked();
+        nextBallIsFresh();
+        warningMakesSwingZero();
+        swingOfOneFades();
+        firstVariable();
         Checks.end("GameTest");
     }
 
@@ -349,5 +353,56 @@ public final class GameTest {
         Checks.fails("variable -1", index, () -> x.variable(0, -1));
         Checks.fails("variable 6", index, () -> x.variable(0, 6));
         Checks.same("variable 5", x.variable(1, 5), 0);
+    }
+
+    private static void nextBallIsFresh() {
+        Tiltcourt x = drop(2);
+        int rule = Checks.rule(x, 0, 's', 1, "m4", "+1");
+        x.condition(rule, 0, '<', 2);
+        Checks.rule(x, 0, 's', 1, "p1");
+        Checks.start(x, 1);
+        Checks.same("swing 3", x.push(), '-');
+        Checks.same("the first warning", x.push(), 'w');
+        x.push();
+        Checks.same("the second warning", x.push(), 'w');
+        Checks.same("swing 3", x.push(), '-');
+        x.tick(4);
+        Checks.same("ball", x.ball(), 2);
+        Checks.same("points", x.points(0), 80);
+        Checks.same("swing 3, not 6", x.push(), '-');
+        Checks.same("the first warning again", x.push(), 'w');
+        x.tick(2);
+        Checks.same("the multiplier is 1", x.points(0), 90);
+        Checks.same("no tilt", x.audit(2), 0);
+    }
+
+    private static void warningMakesSwingZero() {
+        Tiltcourt x = slow(55);
+        Checks.start(x, 1);
+        x.push();
+        x.push();
+        x.push();
+        x.tick(10);
+        Checks.same("3, less 1, and 3", x.push(), '-');
+    }
+
+    private static void swingOfOneFades() {
+        Tiltcourt x = slow(55);
+        Checks.start(x, 1);
+        x.push();
+        x.tick(30);
+        x.push();
+        x.tick(10);
+        Checks.same("0 and 3, less 1, and 3", x.push(), '-');
+    }
+
+    private static void firstVariable() {
+        Tiltcourt x = drop(1);
+        Checks.rule(x, 0, 's', 1, "+1");
+        Checks.start(x, 1);
+        x.tick(100);
+        Checks.same("variable 0", x.variable(0, 0), 6);
+        Checks.start(x, 1);
+        Checks.same("variable 0 of a new game", x.variable(0, 0), 0);
     }
 }

@@ -17,6 +17,10 @@ public final class MovementTest {
         lowestBallIsKicked();
         quietTable();
         quietFromLaunch();
+        fortyOneLocks();
+        strikeSpeed();
+        launchCountsQuietFromZero();
+        holeAtTheStart();
         Checks.end("MovementTest");
     }
 
@@ -321,5 +325,54 @@ public final class MovementTest {
         Checks.same("199 ticks from the kick", x.state(0), 'r');
         x.tick(1);
         Checks.same("200 ticks from the kick", x.state(0), 'l');
+    }
+
+    private static void fortyOneLocks() {
+        Tiltcourt x = Checks.lanes(Checks.machine("pbd"), 0, 1, 12, 1, 1, 80);
+        Checks.start(x, 1);
+        x.tick(20);
+        Checks.same("heat of 41", x.heat(1), 41);
+        x.tick(4);
+        Checks.same("is locked", x.heat(1), 37);
+    }
+
+    private static void strikeSpeed() {
+        for (int length = 36; length <= 37; length++) {
+            Tiltcourt x = Checks.lanes(Checks.machine("pfd"), 0, 1, 12, 1, 2, length, 1, 2, 5);
+            Checks.start(x, 1);
+            x.press(0);
+            x.tick(1);
+            Checks.same("by 18", x.left(0), length == 36 ? 2 : 3);
+        }
+    }
+
+    /** All switches fail; the ball drains, is launched again in the tick 20, and rests in the hole then. */
+    private static void launchCountsQuietFromZero() {
+        Tiltcourt x = Checks.lanes(Checks.machine("pfhd"), 0, 1, 12, 1, 2, 18, 1, 3, 200, 2, 2, 8);
+        for (int i = 0; i < 4; i++) {
+            x.fail(i, true);
+        }
+        Checks.start(x, 1);
+        x.tick(20);
+        Checks.same("launched again", x.at(0), 1);
+        x.press(0);
+        x.tick(2);
+        Checks.same("rests", x.state(0), 'r');
+        x.tick(100);
+        x.tick(97);
+        Checks.same("199 ticks from the launch", x.state(0), 'r');
+        x.tick(1);
+        Checks.same("200 ticks from the launch", x.state(0), 'l');
+    }
+
+    private static void holeAtTheStart() {
+        Tiltcourt x = Checks.lanes(Checks.machine("hd"), 0, 0, 12);
+        Checks.start(x, 1);
+        x.tick(1);
+        Checks.same("rests at the start", x.state(0), 'r');
+        x.tick(100);
+        x.tick(100);
+        Checks.same("kicked", x.state(0), 'l');
+        Checks.same("with 8", x.left(0), 2);
     }
 }

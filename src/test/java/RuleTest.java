@@ -15,6 +15,10 @@ public final class RuleTest {
         beginnings();
         twentyEvents();
         gates();
+        eachActionAlone();
+        endedTimer();
+        timersOfTheLastBall();
+        timerOfTheLastGame();
         Checks.end("RuleTest");
     }
 
@@ -311,5 +315,77 @@ public final class RuleTest {
         Checks.same("open: the lane 0", x.at(0), 2);
         x.tick(4);
         Checks.same("closed again: the lane 1", x.at(0), 3);
+    }
+
+    /** Each action changes what it tells, and nothing else that can be asked. */
+    private static void eachActionAlone() {
+        String actions = "p2 m2 =5 +5 l3 l2 o3 k3 g2 c2 S4 X4 T9 B2 E0 L0";
+        for (String action : actions.split(" ")) {
+            char kind = action.charAt(0);
+            Tiltcourt x = Checks.lanes(Checks.machine("ppghd"),
+                    0, 1, 12, 1, 4, 100, 2, 4, 9, 2, 4, 9, 3, 4, 9);
+            Checks.rule(x, 0, 's', 1, "l1", "l3", action);
+            Checks.start(x, 1);
+            x.tick(1);
+            Checks.same("points by " + action, x.points(0), kind == 'p' ? 20 : 0);
+            Checks.same("variable by " + action, x.variable(0, 0), kind == '=' || kind == '+' ? 5 : 0);
+            Checks.same("lamps by " + action, x.lamps(0), action.equals("o3") ? 2 : action.equals("l2") ? 14 : 10);
+            Checks.same("the mode 4 by " + action, x.runs(4), kind == 'S');
+            Checks.same("the mode 3 by " + action, x.runs(3), false);
+            Checks.same("bonus by " + action, x.bonus(), kind == 'B' ? 200 : 0);
+            Checks.same("the ball 0 by " + action, x.left(0), 10);
+            Checks.same("the ball 1 by " + action, x.state(1), kind == 'L' ? 'l' : '-');
+            Checks.same("heat by " + action, x.heat(3), 0);
+            for (int i = 0; i < 100 && x.audit(1) == 0; i++) {
+                x.tick(1);
+            }
+            Checks.same("the next ball by " + action, x.ball(), kind == 'E' ? 1 : 2);
+        }
+    }
+
+    private static void endedTimer() {
+        Tiltcourt x = circle();
+        Checks.rule(x, 0, 's', 1, "+1");
+        on(x, Checks.rule(x, 0, 's', 1, "S1"), 1);
+        on(x, Checks.rule(x, 0, 's', 1, "X1"), 3);
+        on(x, Checks.rule(x, 0, 's', 1, "S1"), 4);
+        on(x, Checks.rule(x, 1, 's', 1, "T5"), 2);
+        Checks.rule(x, 1, 't', 0, "p1");
+        Checks.start(x, 1);
+        x.tick(4);
+        Checks.same("begun again", x.runs(1), true);
+        x.tick(20);
+        Checks.same("a timer ended with its mode does not go on", x.points(0), 0);
+    }
+
+    private static void on(Tiltcourt x, int rule, int count) {
+        x.condition(rule, 0, '=', count);
+    }
+
+    private static void timersOfTheLastBall() {
+        Tiltcourt x = Checks.lanes(Checks.machine("pd"), 0, 1, 12);
+        Checks.rule(x, 0, 's', 1, "+1");
+        on(x, Checks.rule(x, 0, 's', 1, "S1"), 1);
+        Checks.rule(x, 1, 'b', 0, "T3");
+        on(x, Checks.rule(x, 0, 's', 1, "S1"), 3);
+        Checks.rule(x, 1, 't', 0, "p1");
+        Checks.start(x, 1);
+        x.tick(3);
+        Checks.same("begun again in the next ball", x.runs(1), true);
+        x.tick(2);
+        Checks.same("its new timer does not run out before its end", x.points(0), 0);
+    }
+
+    private static void timerOfTheLastGame() {
+        Tiltcourt x = Checks.lanes(Checks.machine("pd"), 0, 1, 12);
+        Checks.rule(x, 0, 's', 1, "+1");
+        on(x, Checks.rule(x, 0, 's', 1, "T3"), 6);
+        Checks.rule(x, 0, 't', 0, "p1");
+        Checks.start(x, 1);
+        x.tick(100);
+        Checks.same("over", x.player(), -1);
+        Checks.start(x, 1);
+        x.tick(5);
+        Checks.same("the mode 0 ended with its timer", x.points(0), 0);
     }
 }

@@ -6,6 +6,7 @@ public final class SwitchTest {
         notAPlace();
         failingCorner();
         behindAllOthers();
+        cornersAtZero();
         Checks.end("SwitchTest");
     }
 
@@ -106,5 +107,21 @@ public final class SwitchTest {
 
     private static void on(Tiltcourt x, int rule, char sign, int number) {
         x.condition(rule, 2, sign, number);
+    }
+
+    /** The corners 0, 1 and 4 show the place 5. */
+    private static void cornersAtZero() {
+        Tiltcourt x = Checks.lanes(Checks.machine("hhpdhp"), 0, 1, 12, 1, 4, 8, 4, 0, 8, 2, 3, 8, 5, 3, 8);
+        x.spoil(true);
+        int first = Checks.rule(x, 0, 's', 1, "L0", "k1", "+1");
+        x.condition(first, 0, '<', 3);
+        int second = Checks.rule(x, 0, 's', 4, "k4", "+1");
+        x.condition(second, 1, '<', 1);
+        Checks.rule(x, 0, 's', 5, "p1");
+        Checks.start(x, 1);
+        x.tick(4);
+        Checks.same("rests at 0", x.isSeen(0), true);
+        Checks.same("seen", x.isSeen(5), true);
+        Checks.same("its event", x.points(0), 10);
     }
 }
