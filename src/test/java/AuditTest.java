@@ -129,6 +129,13 @@ public final class AuditTest {
             Checks.same("audit " + which, x.audit(which), new int[] {2, 4, 1, 6, 120}[which]);
         }
         Checks.same("save", x.save(), 1);
+        x.tick(100);
+        Checks.start(x, 1);
+        for (int i = 0; i < 6; i++) {
+            x.push();
+        }
+        x.tick(1);
+        Checks.same("audit of games goes on", x.audit(0), 3);
         Checks.same("cut", x.cut(1), 1);
         for (int which = 0; which < 5; which++) {
             Checks.same("audit found " + which, x.audit(which), new int[] {2, 4, 1, 6, 120}[which]);

@@ -374,6 +374,16 @@ public final class GameTest {
         x.tick(2);
         Checks.same("the multiplier is 1", x.points(0), 90);
         Checks.same("no tilt", x.audit(2), 0);
+
+        Tiltcourt y = drop(12);
+        Checks.start(y, 1);
+        y.tick(21);
+        y.push();
+        y.tick(3);
+        Checks.same("ball", y.ball(), 2);
+        Checks.same("swing 3", y.push(), '-');
+        y.tick(10);
+        Checks.same("swing 2 and 3", y.push(), '-');
     }
 
     private static void warningMakesSwingZero() {

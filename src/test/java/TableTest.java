@@ -106,6 +106,7 @@ public final class TableTest {
         Checks.same("places", kinds, 8);
         x.place('d', 0);
         Checks.same("with a second drain", x.isWhole(), true);
+        Checks.same("the place 0 without a lane", Checks.machine("pd").isWhole(), false);
         Tiltcourt drainFirst = Checks.machine("dpd");
         drainFirst.lane(1, 0, 5);
         Checks.same("the place 0 a drain", drainFirst.isWhole(), false);
