@@ -1085,16 +1085,16 @@ public final class Tiltcourt {
 
         /** Writes so many of the 7 numbers, then power may be gone. */
         void write(int howMany) {
-            long[] row = rows[newerRow() == 0 ? 1 : 0];
+            int row = newerRow() == 0 ? 1 : 0;
             long sum = 0;
-            for (int i = 0; i < row.length; i++) {
+            for (int i = 0; i < WRITTEN; i++) {
                 long number = sum;
                 if (i < WRITTEN - 1) {
                     number = i == 0 ? times + 1L : read(i - 1);
                     sum += number;
                 }
                 if (i < howMany) {
-                    row[i] = number;
+                    setNumber(row, i, number);
                 }
             }
             wasEverSaved = wasEverSaved || howMany >= WRITTEN;
@@ -1134,6 +1134,12 @@ public final class Tiltcourt {
         /** A number of a row, 0 of NONE. */
         private long numberAt(int row, int i) {
             return row >= 0 && row < rows.length && i >= 0 && i < rows[row].length ? rows[row][i] : 0;
+        }
+
+        private void setNumber(int row, int i, long number) {
+            if (row >= 0 && row < rows.length && i >= 0 && i < rows[row].length) {
+                rows[row][i] = number;
+            }
         }
     }
 
@@ -1234,8 +1240,11 @@ public final class Tiltcourt {
 
         /** The mode 0 does not begin by an action, so it puts no event. */
         private void setMainMode(boolean isRunning) {
-            modes[0].end();
-            modes[0].isRunning = isRunning;
+            Mode main = modeAt(0);
+            if (main != null) {
+                main.end();
+                main.isRunning = isRunning;
+            }
         }
 
         private void beginBall() {

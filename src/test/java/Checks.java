@@ -1,5 +1,12 @@
+import java.util.NoSuchElementException;
+
 /** What the tests share: they count wrong answers, print them, and end with the exit code 1 if there was one. */
 final class Checks {
+    static final Class<? extends RuntimeException> INDEX = IndexOutOfBoundsException.class;
+    static final Class<? extends RuntimeException> ARGUMENT = IllegalArgumentException.class;
+    static final Class<? extends RuntimeException> STATE = IllegalStateException.class;
+    static final Class<? extends RuntimeException> NO_ELEMENT = NoSuchElementException.class;
+    static final Class<? extends RuntimeException> ARITHMETIC = ArithmeticException.class;
     private static int checked = 0;
     private static int wrong = 0;
 
@@ -69,10 +76,26 @@ final class Checks {
         return x;
     }
 
+    /** A table told as "p r9 f1 d", each kind with its number or 0, then its lanes, each as from, to, length. */
+    static Tiltcourt table(String places, int... fromToLength) {
+        Tiltcourt x = new Tiltcourt();
+        for (String place : places.split(" ")) {
+            x.place(place.charAt(0), place.length() > 1 ? Integer.parseInt(place.substring(1)) : 0);
+        }
+        return lanes(x, fromToLength);
+    }
+
     /** Adds a rule without a condition; actions are told as "p5", "S1", "=-3". */
     static int rule(Tiltcourt x, int mode, char trigger, int a, String... actions) {
         int rule = x.rule(mode, trigger, a, false);
         give(x, rule, actions);
+        return rule;
+    }
+
+    /** Adds a rule with a condition told as "0<4", the variable, the sign and the number. */
+    static int ruleIf(Tiltcourt x, String condition, int mode, char trigger, int a, String... actions) {
+        int rule = rule(x, mode, trigger, a, actions);
+        x.condition(rule, condition.charAt(0) - '0', condition.charAt(1), Integer.parseInt(condition.substring(2)));
         return rule;
     }
 
@@ -85,6 +108,13 @@ final class Checks {
     private static void give(Tiltcourt x, int rule, String[] actions) {
         for (String action : actions) {
             x.action(rule, action.charAt(0), Integer.parseInt(action.substring(1)));
+        }
+    }
+
+    /** Lets more ticks go by than one call may, while the game is on. */
+    static void pass(Tiltcourt x, int ticks) {
+        for (int left = ticks; left > 0 && x.player() >= 0; left -= 100) {
+            x.tick(Math.min(left, 100));
         }
     }
 
