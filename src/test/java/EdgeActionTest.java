@@ -9,6 +9,7 @@ public final class EdgeActionTest {
         numberSetOrGreater();
         lampsZeroToFifteen();
         litTwice();
+        numbersOfDifferentThings();
         kicksNothing();
         kicksTheLowest();
         kicksOneOnly();
@@ -147,6 +148,18 @@ public final class EdgeActionTest {
         Checks.start(x, 1);
         x.tick(3);
         Checks.same("lamps", x.lamps(0), 16);
+    }
+
+    /** A lamp, a mode or a number of points that is also the number of a hole moves no ball in it. */
+    private static void numbersOfDifferentThings() {
+        for (String action : "l1 o1 p1 m1 =1 +1 B1 T1 S1 X1".split(" ")) {
+            Tiltcourt x = Checks.table("p h d", 0, 1, 12, 1, 2, 200);
+            Checks.rule(x, 0, 's', 1, action);
+            Checks.start(x, 1);
+            x.tick(2);
+            Checks.same("still rests after " + action, x.state(0), 'r');
+            Checks.same("no use after " + action, x.heat(1), 0);
+        }
     }
 
     /** "if a ball rests there": no use of its coil without one, nor while it is still in the lane to it. */
