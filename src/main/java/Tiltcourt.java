@@ -219,7 +219,7 @@ public final class Tiltcourt {
         if (found == null || variable < 0 || variable >= Player.VARIABLES) {
             throw new IndexOutOfBoundsException("no such player or variable");
         }
-        return found.read(variable);
+        return (int) found.read(variable);
     }
 
     public int lamps(int player) throws IndexOutOfBoundsException {
@@ -285,7 +285,7 @@ public final class Tiltcourt {
     }
 
     public int bonus() {
-        return play.isOn ? play.turn.bonus : 0;
+        return play.isOn ? (int) play.turn.bonus : 0;
     }
 
     // ---- audits
@@ -938,7 +938,7 @@ public final class Tiltcourt {
             if (!hasCondition) {
                 return true;
             }
-            int value = player.read(variable);
+            long value = player.read(variable);
             switch (sign) {
                 case '<':
                     return value < number;
@@ -982,7 +982,8 @@ public final class Tiltcourt {
 
         private long points;
         private int lamps;
-        private final int[] variables = new int[VARIABLES];
+        /** In a long game these grow beyond what an int holds, and conditions compare them. */
+        private final long[] variables = new long[VARIABLES];
         /** By multipliers: the points that actions gave, and the bonus that was paid, before multiplying. */
         private final long[] written = new long[MULTIPLIERS];
 
@@ -997,11 +998,11 @@ public final class Tiltcourt {
             }
         }
 
-        int read(int variable) {
+        long read(int variable) {
             return variable >= 0 && variable < variables.length ? variables[variable] : 0;
         }
 
-        void write(int variable, int value) {
+        void write(int variable, long value) {
             if (variable >= 0 && variable < variables.length) {
                 variables[variable] = value;
             }
@@ -1031,7 +1032,8 @@ public final class Tiltcourt {
     /** What is forgotten when the next ball begins. */
     private static final class Turn {
         private int multiplier = 1;
-        private int bonus;
+        /** In a long ball this grows beyond what an int holds. */
+        private long bonus;
         private boolean hasExtraBall;
         private boolean wasSaved;
         private boolean isTilted;
@@ -1390,7 +1392,7 @@ public final class Tiltcourt {
                     field.setGate(n, kind == 'g');
                     break;
                 case 'B':
-                    turn.bonus += n * 100;
+                    turn.bonus += n * 100L;
                     break;
                 case 'E':
                     turn.hasExtraBall = true;

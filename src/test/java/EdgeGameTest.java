@@ -1,6 +1,8 @@
 /** The edges of 'Games' and of a tilt, and of the promises 11, 12, 17 to 21 and 28, a method for each sentence. */
 public final class EdgeGameTest {
     private static final int[] FAR = {-1, Integer.MIN_VALUE, Integer.MAX_VALUE};
+    /** What 24 actions 'B' 999 give for one event. */
+    private static final long DUE_FOR_ONE = 24 * 99900L;
 
     public static void main(String[] args) {
         oneToTwentyCoins();
@@ -28,6 +30,8 @@ public final class EdgeGameTest {
         flippersAsTheyAre();
         oneBallIsLaunched();
         bonusTimesTheMultiplier();
+        bonusOfALongBall();
+        longestBonus();
         bonusWithoutAGame();
         extraBallDoesNotCount();
         extraBallOfTheLastBall();
@@ -421,6 +425,62 @@ public final class EdgeGameTest {
         Checks.same("bonus of the next", x.bonus(), 0);
         x.tick(100);
         Checks.same("at the end of the game", x.points(0), 3500);
+        Checks.same("isConsistent", x.isConsistent(), true);
+    }
+
+    /** A ball comes to the place 1 in each tick while the flipper is down, and drains by it. */
+    private static Tiltcourt giver() {
+        Tiltcourt x = Checks.table("p f d", 0, 1, 1, 1, 2, 1, 1, 1, 1);
+        for (int i = 0; i < 6; i++) {
+            Checks.rule(x, 0, 's', 1, "B999", "B999", "B999", "B999");
+        }
+        return x;
+    }
+
+    private static void drain(Tiltcourt x) {
+        x.letGo(0);
+        x.press(0);
+        x.tick(2);
+    }
+
+    /** What is paid at a ball's end, and what rests on it, is right also above what an int holds. */
+    private static void bonusOfALongBall() {
+        Tiltcourt x = giver();
+        Checks.start(x, 1);
+        Checks.pass(x, 800);
+        Checks.same("an int still holds it", x.bonus(), 800 * DUE_FOR_ONE);
+        x.tick(100);
+        drain(x);
+        Checks.same("the next ball", x.ball(), 2);
+        Checks.same("its bonus", x.bonus(), 0);
+        Checks.same("901 events", x.points(0), 901 * DUE_FOR_ONE);
+        Checks.same("isConsistent", x.isConsistent(), true);
+        Checks.same("mean", x.meanPoints(), (double) (901 * DUE_FOR_ONE));
+        // the other two balls are saved once each
+        for (int i = 0; i < 4; i++) {
+            drain(x);
+        }
+        Checks.same("over", x.player(), -1);
+        Checks.same("905 events", x.points(0), 905 * DUE_FOR_ONE);
+        Checks.same("audit 4", x.audit(4), 905 * DUE_FOR_ONE);
+        Checks.same("mean", x.meanPoints(), (double) (905 * DUE_FOR_ONE));
+        Checks.same("the credit", x.coin(1), 1);
+    }
+
+    /** More than twice what an int holds, with the multiplier 9, for the second of two players. */
+    private static void longestBonus() {
+        Tiltcourt x = giver();
+        Checks.rule(x, 0, 's', 2, "m9");
+        Checks.start(x, 2);
+        drain(x);
+        drain(x);
+        Checks.same("the second one's", x.player(), 1);
+        x.letGo(0);
+        Checks.pass(x, 2100);
+        drain(x);
+        Checks.same("the first one's", x.player(), 0);
+        Checks.same("2 events", x.points(0), 9 * 2 * DUE_FOR_ONE);
+        Checks.same("2101 events", x.points(1), 9 * 2101 * DUE_FOR_ONE);
         Checks.same("isConsistent", x.isConsistent(), true);
     }
 

@@ -22,6 +22,7 @@ public final class EdgeRuleTest {
         lessEqualGreater();
         numbersOfConditions();
         conditionHoldsThen();
+        conditionOfALongGame();
         ruleWithoutActions();
         modesAtFirst();
         othersAfterAGame();
@@ -350,6 +351,27 @@ public final class EdgeRuleTest {
         x.tick(1);
         Checks.same("made true by the rule before, not for an earlier one", x.points(0), 110);
         Checks.same("variable", x.variable(0, 2), 2);
+    }
+
+    /** A variable that has become greater than an int holds is still greater, and one far below 0 still less. */
+    private static void conditionOfALongGame() {
+        for (String step : new String[] {"+99", "+-99"}) {
+            boolean rises = step.equals("+99");
+            Tiltcourt x = circle();
+            Checks.rule(x, 0, 's', 1, "X1", "S1");
+            for (int i = 0; i < 21; i++) {
+                Checks.rule(x, 1, 'b', 0, step, step, step, step);
+            }
+            Checks.rule(x, 1, 'b', 0, "X1", "S1");
+            Checks.ruleIf(x, rises ? "0<0" : "0>0", 0, 's', 1, "l5");
+            Checks.start(x, 1);
+            x.tick(1);
+            // of the 20 events of a tick 19 are a 'b', each of which makes it 84 times 99 more or less
+            Checks.same("variable", x.variable(0, 0), (rises ? 1 : -1) * 19 * 84 * 99);
+            Checks.pass(x, 14000);
+            Checks.same("the sign was never wrong", x.lamps(0), 0);
+            Checks.same("the ball is on", x.ball(), 1);
+        }
     }
 
     private static void ruleWithoutActions() {
